@@ -339,7 +339,8 @@ public final class RegisterDesk {
     /**
      * The bits of the single number nearest to a quotient, of two as near the even one. The library
      * gives no bits of a float, so they are worked out; bits of numbers that are not below 0 stand
-     * in the order of the numbers, so they can be compared in their stead.
+     * in the order of the numbers, so they can be compared in their stead. A cost has far fewer than
+     * 24 bits, so the quotient is only ever widened to them.
      */
     private static int singleBits(int cost, int by) {
         if (cost <= 0 || by <= 0) {
@@ -351,10 +352,6 @@ public final class RegisterDesk {
         for (int i = 0; i < 64 && above < below << 23; i++) {
             above <<= 1;
             exponent--;
-        }
-        for (int i = 0; i < 64 && above >= below << 24; i++) {
-            below <<= 1;
-            exponent++;
         }
         long whole = above / below;
         long twiceRest = 2 * (above - whole * below);
@@ -449,11 +446,14 @@ public final class RegisterDesk {
         private int count = 0;
         private int moves = 0;
         private long names = 0L;
+        // No NAME in it is as high: searches need not go further.
+        private int top = REGISTERS;
 
         void clear() {
             count = 0;
             moves = 0;
             names = 0L;
+            top = REGISTERS;
             for (int figure = 0; figure < FIGURES; figure++) {
                 labels[figure] = NONE;
             }
@@ -488,14 +488,16 @@ public final class RegisterDesk {
             if (name < 0 || name >= MOST_NAMES || count < 0 || count >= MOST_INSTRUCTIONS) {
                 return;
             }
+            if (shape != READ && shape != WRITTEN) {
+                return;
+            }
             if (shape == READ) {
                 reads[count] |= 1L << name;
-                names |= 1L << name;
-            }
-            if (shape == WRITTEN) {
+            } else {
                 writes[count] = name;
-                names |= 1L << name;
             }
+            names |= 1L << name;
+            top = Math.max(top, name + 1);
         }
 
         int partAt(int i, int what) {
@@ -532,6 +534,7 @@ public final class RegisterDesk {
             count = other.count;
             moves = other.moves;
             names = other.names;
+            top = other.top;
         }
     }
 
@@ -598,17 +601,17 @@ public final class RegisterDesk {
                     if (listing.partAt(i, 0) == MOVE) {
                         others &= ~listing.reads[i];
                     }
-                    putBeside(written, others);
+                    putBeside(written, others, Math.min(listing.top, MOST_NAMES));
                 }
             }
         }
 
-        private void putBeside(int name, long others) {
-            if (name < 0 || name >= MOST_NAMES) {
+        private void putBeside(int name, long others, int top) {
+            if (name < 0 || name >= MOST_NAMES || top > MOST_NAMES) {
                 return;
             }
             beside[name] |= others;
-            for (int other = 0; other < MOST_NAMES; other++) {
+            for (int other = 0; other < top; other++) {
                 if (has(others, other)) {
                     beside[other] |= 1L << name;
                 }
@@ -656,6 +659,7 @@ public final class RegisterDesk {
         private final boolean[] open = new boolean[MOST_INSTRUCTIONS];
         private final int[] taken = new int[MOST_NAMES];
         private final int[] steps = new int[MOST_STEPS];
+        private int top = REGISTERS;
         private int moves = 0;
         private int takenCount = 0;
         private int stepCount = 0;
@@ -683,6 +687,7 @@ public final class RegisterDesk {
             stepCount = 0;
             spills = 0L;
             left = listing.names | REGISTER_BITS;
+            top = Math.min(listing.top, MOST_NAMES);
             for (int name = 0; name < MOST_NAMES; name++) {
                 beside[name] = needs.beside[name];
                 costs[name] = needs.costs[name];
@@ -705,7 +710,7 @@ public final class RegisterDesk {
         /** Sees who is LOW and who is MOVED; answers whether a VALUE is left. */
         private boolean lookAround() {
             low = 0L;
-            for (int name = REGISTERS; name < MOST_NAMES; name++) {
+            for (int name = REGISTERS; name < top; name++) {
                 degrees[name] = Long.bitCount(beside[name]);
                 if (has(left, name) && degrees[name] < k) {
                     low |= 1L << name;
@@ -768,7 +773,7 @@ public final class RegisterDesk {
         private void takeInHope() {
             int lightest = NONE;
             int leastWeight = 0;
-            for (int value = REGISTERS; value < MOST_NAMES; value++) {
+            for (int value = REGISTERS; value < top; value++) {
                 if (has(left, value)) {
                     int weight = weightBits(weighing, costs[value], degrees[value]);
                     if (lightest < 0 || weight < leastWeight) {
@@ -794,7 +799,7 @@ public final class RegisterDesk {
             long either = beside[kept] | beside[gone];
             long both = beside[kept] & beside[gone];
             int crowded = 0;
-            for (int name = 0; name < MOST_NAMES; name++) {
+            for (int name = 0; name < top; name++) {
                 if (has(either, name)) {
                     int fewer = has(both, name) ? 1 : 0;
                     if (name < REGISTERS || degrees[name] - fewer >= k) {
@@ -809,7 +814,7 @@ public final class RegisterDesk {
             if (kept < 0 || gone < 0 || kept >= MOST_NAMES || gone >= MOST_NAMES) {
                 return;
             }
-            for (int name = 0; name < MOST_NAMES; name++) {
+            for (int name = 0; name < top; name++) {
                 if (has(beside[gone], name)) {
                     beside[name] = beside[name] & ~(1L << gone) | 1L << kept;
                 }
@@ -825,7 +830,7 @@ public final class RegisterDesk {
             if (value < 0 || value >= MOST_NAMES || takenCount < 0 || takenCount >= MOST_NAMES) {
                 return;
             }
-            for (int name = 0; name < MOST_NAMES; name++) {
+            for (int name = 0; name < top; name++) {
                 if (has(beside[value], name)) {
                     beside[name] &= ~(1L << value);
                 }
@@ -846,13 +851,7 @@ public final class RegisterDesk {
         private void bringBack() {
             for (int i = takenCount - 1; i >= 0; i--) {
                 int value = taken[i];
-                int used = 0;
-                for (int name = 0; name < MOST_NAMES; name++) {
-                    int register = registers[nodeOf(name)];
-                    if (has(beside[value], name) && register >= 0) {
-                        used |= 1 << register;
-                    }
-                }
+                int used = registersBeside(value);
                 int free = 0;
                 while (free < k && (used >>> free & 1) != 0) {
                     free++;
@@ -863,6 +862,20 @@ public final class RegisterDesk {
                     spills |= 1L << value;
                 }
             }
+        }
+
+        /** The REGISTERS, as bits, of all that a VALUE was beside when it was TAKEN. */
+        private int registersBeside(int value) {
+            int used = 0;
+            for (int name = 0; name < top; name++) {
+                if (has(beside[value], name)) {
+                    int register = registers[nodeOf(name)];
+                    if (register >= 0) {
+                        used |= 1 << register;
+                    }
+                }
+            }
+            return used;
         }
 
         private void note(int kind, int number) {
@@ -881,8 +894,8 @@ public final class RegisterDesk {
             return node;
         }
 
-        private static int leastOf(long set) {
-            for (int name = 0; name < MOST_NAMES; name++) {
+        private int leastOf(long set) {
+            for (int name = 0; name < top; name++) {
                 if (has(set, name)) {
                     return name;
                 }

@@ -399,6 +399,11 @@ public final class PromisesTest {
         x = desk(".a+abb.j+bhg.k.i=bc.k=ac=cf.f.c.d=ch=aa.b=gc+caa=ca+bce=bb.c", 2, 2);
         due("name 63: rounds(0)", x.rounds(0), 4);
         due("name 63: rounds(2)", x.rounds(2), 48);
+        String[] oneNameMore = {".a+bAg+aje.c.g.c=hk=Bf.i=ba-DC=cb#f7.d=ab=Ah.b.b=dc^c0=cb=gd",
+            ".a.b=ga=Af+cfD.j+cCe.e.f.a.b+haA+fci.g+bgf#c8#c9.c.b.b.c+acb"};
+        for (String text : oneNameMore) {
+            dueRounds("name 64", desk(text, 2, 2), STATE, STATE, STATE, STATE, STATE);
+        }
         x = desk("=bk.k.e.h.a.B+fgd=ah+cii=fa", 2, 2);
         dueRounds("7 rounds", x, STATE, STATE, STATE, STATE, STATE);
     }

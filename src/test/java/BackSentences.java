@@ -142,6 +142,11 @@ final class BackSentences extends Sentences {
             // In a LOOP a VALUE may well cost 100 and more.
             dueRounds("@0^d0.d-dc+cdc.d=db-dd.d+dbc+cbb^a0=dd", 2, 1, 3, 3, 17, 28, 2);
         });
+        sentence(16, "MOVES are OPEN at first (all, by their places)", () -> {
+            // Given up in the first ROUND, made one in the second, so that c comes back behind it.
+            dueSteps("#a7#b1#c1.c=db.a.d", 2, 0, 407, 107, 504, 105, 106);
+            dueCode("#a7#b1#c1.c=db.a.d", 2, 0, "#A7>A0#A1#B1.B<B0.B.A");
+        });
         sentence(14, "Then there is another ROUND.", () -> {
             dueRounds(".a", 2, 0, 1, 0, 0, 1, 0);
             dueRounds("#a7#b1#c1.b.c.a", 2, 0, 2, 1, 2, 8, 0);

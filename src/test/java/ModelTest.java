@@ -78,13 +78,28 @@ public final class ModelTest {
         return bits;
     }
 
-    private static void say(RegisterDesk desk, String text) {
-        for (int i = 0; i < text.length(); i++) {
-            due("say", desk.say(text.charAt(i)), i + 1);
+    /** What a desk is made from: a program, a K and a WAY, and others that were set ahead of them. */
+    private record Case(String text, int oldK, int oldWay, int k, int way) {
+        /** A new one, for each object is used for 512 calls alone. */
+        Desk desk() {
+            Desk desk = new Desk().with(oldK, oldWay);
+            for (int i = 0; i < text.length(); i++) {
+                due("say", desk.say(text.charAt(i)), i + 1);
+            }
+            due("fault()", desk.fault(), -6);
+            due("load()", desk.load() < 0 ? 0 : 1, 1);
+            if (oldK != k || oldWay != way) {
+                // Something is worked out first, so that nothing old is answered.
+                desk.step(0);
+                desk.spent(0);
+                due("colours", desk.colours(k), oldK);
+                due("way", desk.way(way), oldWay);
+            }
+            return desk;
         }
     }
 
-    private static void checkProgram(RegisterDesk desk, List<Model.Ins> list, int way) {
+    private static void checkProgram(Desk desk, List<Model.Ins> list, int way) {
         due("told(1)", desk.told(1), list.size());
         due("told(4)", desk.told(4), bits(Model.names(list)));
         due("told(5)", desk.told(5), list.stream().filter(x -> x.kind() == 1).count());
@@ -107,7 +122,7 @@ public final class ModelTest {
         }
     }
 
-    private static void checkRounds(RegisterDesk desk, Model model) {
+    private static void checkRounds(Desk desk, Model model) {
         due("step(-1)", desk.step(-1), model.steps.size());
         for (int i = 0; i < model.steps.size(); i++) {
             due("step(" + i + ")", desk.step(i), model.steps.get(i));
@@ -150,15 +165,18 @@ public final class ModelTest {
         due("code(end, 0)", desk.code(model.code.size(), 0), -1);
     }
 
-    private static void checkRuns(RegisterDesk desk, Model model) {
+    private static void checkRuns(Case made, Model model) {
+        Desk desk = made.desk();
         Model.Run run = new Model.Run(model.program, 500);
         due("run(0)", desk.run(0), run.told.size());
         due("run(1)", desk.run(1), run.digest);
         due("run(2)", desk.run(2), run.steps);
         due("run(3)", desk.run(3), run.ended ? 1 : 0);
         for (int i = 0; i < run.told.size(); i++) {
+            desk = desk.callsLeft() > 0 ? desk : made.desk();
             due("out(" + i + ")", desk.out(i), run.told.get(i));
         }
+        desk = made.desk();
         due("out(end)", desk.out(run.told.size()), -6);
         if (model.unknownBecause != null) {
             return;
@@ -187,33 +205,24 @@ public final class ModelTest {
         return Model.live(behindNothing, 0).isEmpty();
     }
 
+    private static void check(Case made) {
+        about = made.toString();
+        List<Model.Ins> list = Model.parse(made.text);
+        Model model = new Model(list, made.k, made.way);
+        checkProgram(made.desk(), list, made.way);
+        checkRounds(made.desk(), model);
+        checkRuns(made, model);
+    }
+
     public static void main(String[] args) {
-        Random random = new Random(20261117L);
-        for (int p = 0; p < PROGRAMS && wrong < 200; p++) {
+        int programs = args.length > 0 ? Integer.parseInt(args[0]) : PROGRAMS;
+        Random random = new Random(args.length > 1 ? Long.parseLong(args[1]) : 20261117L);
+        for (int p = 0; p < programs && wrong < 200; p++) {
             String text = program(random);
             int k = 2 + random.nextInt(3);
             int way = random.nextInt(3);
-            about = text + " k " + k + " way " + way;
-            RegisterDesk desk = new RegisterDesk();
-            say(desk, text);
-            desk.colours(k);
-            desk.way(way);
-            List<Model.Ins> list = Model.parse(text);
-            due("fault()", desk.fault(), -6);
-            due("load()", desk.load(), list.size());
-            checkProgram(desk, list, way);
-            Model model = new Model(list, k, way);
-            checkRounds(desk, model);
-            checkRuns(desk, model);
-            // The same program under another K and way, so that nothing old is answered.
-            int otherK = 2 + random.nextInt(3);
-            int otherWay = random.nextInt(3);
-            about = text + " k " + otherK + " way " + otherWay + " (second)";
-            due("colours", desk.colours(otherK), k);
-            due("way", desk.way(otherWay), way);
-            Model second = new Model(list, otherK, otherWay);
-            checkRounds(desk, second);
-            checkRuns(desk, second);
+            check(new Case(text, k, way, k, way));
+            check(new Case(text, k, way, 2 + random.nextInt(3), random.nextInt(3)));
         }
         System.out.println(seen);
         for (String must : List.of("step 1", "step 2", "step 3", "step 4", "step 5", "unknown: rounds",

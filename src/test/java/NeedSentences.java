@@ -112,6 +112,18 @@ final class NeedSentences extends Sentences {
             dueEdges("#A1.B.l", 0, 14 | 1 << 15, 1, 13, 15, 1);
             dueEdges("#l1.a.b.c.d.e.f.g.h.i.j.k", 15, 0x7FF0, 4, 1 << 15, 14, 1 << 15);
         });
+        sentence(10, "EDGES of a NAME, as bits.", () -> {
+            // Those of the PROGRAM: what is made one in a ROUND, or SPILLED, changes none.
+            Desk x = Desk.of("=bA=cA.b.c", 3, 0);
+            due("step(-1)", x.step(-1), 3);
+            due("edges(0)", x.edges(0), 14);
+            due("edges(5)", x.edges(5), 64);
+            due("edges(6)", x.edges(6), 32);
+            x.loaded("#a1#b2#c3.a.b.c").with(2, 0);
+            due("spilled(0)", x.spilled(0), 4);
+            due("edges(4)", x.edges(4), 96);
+            due("live(2)", x.live(2), 112);
+        });
         sentence(10, "UNKNOWN: 0 to 15.", () -> {
             Desk x = Desk.of("#k1.l", 3, 0);
             due("edges(-1)", x.edges(-1), UNKNOWN);
@@ -236,6 +248,10 @@ final class NeedSentences extends Sentences {
             // REGISTERS count, and those that would be TAKEN away first.
             dueWeight("#a1.A.D.b", 0, 4, Float.floatToIntBits(1f / 3f));
             dueWeight("#a1.A.D.b", 2, 5, Float.floatToIntBits(1f));
+            Desk x = Desk.of("=bA=cA.b.c", 3, 0);
+            due("step(-1), b is made one with A", x.step(-1), 3);
+            due("weight(5, 1), as ahead of it", x.weight(5, 1), Float.floatToIntBits(2f));
+            due("weight(6, 1), as ahead of it", x.weight(6, 1), Float.floatToIntBits(2f));
         });
     }
 }

@@ -268,10 +268,14 @@ final class ProgramSentences extends Sentences {
             due("instruction(0, 2)", x.instruction(0, 2), 7);
         });
         sentence(7, "The PROGRAM is what the PAD tells (it is empty then)", () -> {
-            Desk x = Desk.of("#a1.a", 4, 2).loaded("#a2.a.a");
+            Desk x = Desk.of("#a1.a", 4, 2);
+            due("live(0)", x.live(0), 16);
+            due("run(0)", x.run(0), 1);
+            due("spent(0)", x.spent(0), 1);
+            x.loaded("#b2.b.b");
             due("told(2), K stays", x.told(2), 4);
             due("told(3), the WAY stays", x.told(3), 2);
-            due("live(0)", x.live(0), 16);
+            due("live(0) is of the new one", x.live(0), 32);
             due("run(0) is of the new one", x.run(0), 2);
             due("spent(0) is of the new one", x.spent(0), 2);
             due("rounds(3) is of the new one", x.rounds(3), 3);

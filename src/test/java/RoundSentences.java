@@ -147,7 +147,9 @@ final class RoundSentences extends Sentences {
             dueSteps("=bd.B", 2, 0, 300, 105);
             dueSteps("=fd.B=cC", 2, 0, 301, 407, 107, 509);
             dueSteps("=fd.B=cC", 3, 0, 300, 107, 301);
-            // e has two (d and c): K of them is as many as K.
+            // A is beside both, and counts once.
+            dueSteps("#a1=ba.A", 2, 0, 300, 104);
+            // e has two NEIGHBOURS, as many as K: it is one of two when a is tried.
             dueSteps("=db=ca.e", 2, 0, 300, 404, 104, 105, 106, 108);
         });
         sentence(12, "a REGISTER always has", () -> {
@@ -192,6 +194,8 @@ final class RoundSentences extends Sentences {
         });
         sentence(12, "is TAKEN, in hope; its MOVES are SHUT, too", () -> {
             dueSteps("=be=ac=cA.e", 2, 0, 504, 300, 302, 105);
+            // d, moved into a, is not MOVED any more when a is gone.
+            dueSteps("#b1#c1#d1.d.d.d=ad.a.b.b.b.b.c.c.c.c.c", 2, 0, 504, 505, 106, 107);
         });
         sentence(13, "in hope", () -> {
             // b is beside A and C; B is free.

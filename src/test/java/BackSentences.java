@@ -168,6 +168,15 @@ final class BackSentences extends Sentences {
             dueRounds(".a+abb.j+bhg.k.i=bc.k=ac=cf.f.c.d=ch=aa.b=gc+caa=ca+bce=bb.c", 2, 2, 4, 16, 48, 62, 8);
             dueRounds(".a+bAg+aje.c.g.c=hk=Bf.i=ba-DC=cb#f7.d=ab=Ah.b.b=dc^c0=cb=gd", 2, 2, STATE, STATE, STATE, STATE, STATE);
             dueRounds(".a.b=ga=Af+cfD.j+cCe.e.f.a.b+haA+fci.g+bgf#c8#c9.c.b.b.c+acb", 2, 2, STATE, STATE, STATE, STATE, STATE);
+            // Found out at a reading; without the rest of that PROGRAM there would be CODE.
+            dueRounds("+deC.e=ca.d=cd=cD.a=ec+eaa=cc=bb=eB+dce.A=AD", 3, 0, STATE, STATE, STATE, STATE, STATE);
+            dueRounds("=cB=Cb=CA^B0=cC=cb.C^e0+bcB=bb^b0+cef=fA#f1=bb#a7=cb=da", 2, 2, STATE, STATE, STATE, STATE, STATE);
+        });
+        sentence(16, "or a NAME above 63", () -> {
+            // 63 itself has a REGISTER, as all have: it is LOADED last.
+            dueCode(".a+abb.j+bhg.k.i=bc.k=ac=cf.f.c.d=ch=aa.b=gc+caa=ca+bce=bb.c", 2, 2,
+                "<A0>A3<A3.A<A1>A4<A1>A5<B4<A5+ABA>A6<A6>A0<A14.A<B12<A11+ABA>A7<A7>A1<A15.A<A13.A<A8>A1<A15.A<A8>A0<A10>A8<A10.A"
+                + "<A8.A<A9.A<A12>A8<A0>A0<A1.A<A8>A11<B0<A0+ABA>A8<A0>A8<B2<A8+AAB>A1<A1>A1<A8.A");
         });
     }
 

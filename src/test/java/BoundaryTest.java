@@ -18,6 +18,7 @@ public final class BoundaryTest {
         BackSentences.all();
         RunSentences.all();
         RefusalSentences.all();
+        AgainSentences.all();
         return Sentences.broken();
     }
 

@@ -108,7 +108,8 @@ class Sentences {
             for (int what = 1; what <= 3; what++) {
                 int part = desk.code(i, what);
                 boolean register = what == 1 ? kind != 5 : kind >= 1 && kind <= 3;
-                got.append(part == NONE ? "" : register ? "" + "ABCD".charAt(part) : "" + part);
+                boolean named = register && part >= 0 && part < 4;
+                got.append(part == NONE ? "" : named ? "" + "ABCD".charAt(part) : register ? "?" + part : "" + part);
             }
         }
         if (!got.toString().equals(want)) {
